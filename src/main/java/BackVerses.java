@@ -759,7 +759,6 @@ public final class BackVerses {
             places[member] = seat;
             verses[member] = verse;
             deeps[member] = deep;
-            // An undo() may have left a later member's traces here.
             knows[member] = 0;
             tired[member] = 0;
             sitters[seat] = member;
@@ -796,15 +795,15 @@ public final class BackVerses {
 
         int gaps() {
             int gaps = 0;
-            int emptySinceSomebody = 0;
+            // Those become GAPS only when somebody is found in front of them, too.
+            int emptyInFront = 0;
             boolean somebody = false;
             for (int seat = 0; seat < SEATS; seat++) {
                 if (sitters[seat] != NOBODY) {
-                    gaps |= emptySinceSomebody;
-                    emptySinceSomebody = 0;
+                    gaps = emptyInFront;
                     somebody = true;
                 } else if (somebody) {
-                    emptySinceSomebody |= 1 << seat;
+                    emptyInFront |= 1 << seat;
                 }
             }
             return gaps;

@@ -88,6 +88,8 @@ public final class AheadTest {
     due("shift(40)", x.shift(40), 0);
     due("bears(0, 41, 0)", x.bears(0, 41, 0), BEYOND);
     due("bears(0, 0, 11)", x.bears(0, 0, 11), BEYOND);
+    due("bears(0, 0, 0)", x.bears(0, 0, 0), 99);
+    due("bears(0, 0, 1)", x.bears(0, 0, 1), NONE);
     due("bears(0, 40, 10)", x.bears(0, 40, 10), NONE);
     due("bears(0, 40, 0)", x.bears(0, 40, 0), 99);
     due("wisest(101)", x.wisest(101), BEYOND);

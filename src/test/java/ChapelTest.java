@@ -68,7 +68,7 @@ public final class ChapelTest {
     due("one alone: now(1)", x.now(1), 0);
     x.member(1, 2, 9);
     due("2 and 5: now(1)", x.now(1), 8 + 16);
-    x.member(2, 9, 3);
+    x.member(2, 9, 9);
     due("2, 5 and 9: now(1)", x.now(1), 8 + 16 + 64 + 128 + 256);
     x.move(2, 11);
     x.move(1, 0);
@@ -103,6 +103,9 @@ public final class ChapelTest {
     due("verse(max)", x.verse(Integer.MAX_VALUE), NONE);
     due("verse(-1)", x.verse(-1), BEYOND);
     due("verse(min)", x.verse(Integer.MIN_VALUE), BEYOND);
+    x.member(0, 0, 5);
+    due("the first seat: verse(0)", x.verse(0), 5);
+    due("verse(1)", x.verse(1), 8);
   }
 
   private static void members() {

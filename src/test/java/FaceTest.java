@@ -41,12 +41,17 @@ public final class FaceTest {
     if (wrong != 0) System.exit(1);
   }
 
+  private static Set<String> names() {
+    Set<String> names = new TreeSet<>();
+    for (String each : FACE) names.add(each.substring(each.indexOf(' ') + 1, each.indexOf('(')));
+    return names;
+  }
+
   private static void face() {
     due("public and final", Modifier.isPublic(BackVerses.class.getModifiers())
         && Modifier.isFinal(BackVerses.class.getModifiers()));
     Set<String> want = new TreeSet<>(Set.of(FACE));
-    Set<String> names = new TreeSet<>();
-    for (String each : FACE) names.add(each.substring(each.indexOf(' ') + 1, each.indexOf('(')));
+    Set<String> names = names();
     Set<String> got = new TreeSet<>();
     for (Method method : BackVerses.class.getDeclaredMethods()) {
       if (Modifier.isPrivate(method.getModifiers())) {
@@ -82,6 +87,7 @@ public final class FaceTest {
       due(each + " is static", each == BackVerses.class || Modifier.isStatic(each.getModifiers()));
       for (Method method : each.getDeclaredMethods()) {
         due(method + " has at most seven parameters", method.getParameterCount() <= 7);
+        due(method + " has a name of its own", each == BackVerses.class || !names().contains(method.getName()));
       }
     }
   }

@@ -18,6 +18,7 @@ public final class TextTest {
     whatItemsDo();
     faults();
     everyByte();
+    earlierBytes();
     eleventh();
     faultChangesNothing();
     System.out.println(wrong == 0 ? "all answers are as due" : wrong + " answers are not as due");
@@ -77,7 +78,7 @@ public final class TextTest {
     due("one there by then", tell(new BackVerses(), "boy 2 2;knows 0 2;knows 0 3;move 0 3;move 0 2"), 5);
     StringBuilder all = new StringBuilder("knows 1 0");
     while (all.length() < 110) all.append(";knows 1 0");
-    due("a full tape", tell(two(), all + " "), 12);
+    due("a full tape", tell(two(), all + "0"), 12);
   }
 
   private static void whatItemsDo() {
@@ -105,7 +106,7 @@ public final class TextTest {
     Object[][] cases = {
       {"", 0}, {"   ", 3}, {";", 0}, {"boy", 3}, {"boy ", 4}, {"boy 0", 5}, {"boy 0 ", 6}, {"boy 0 0;", 8},
       {"boy 0 0 ; ", 10}, {"boy 0 0 deep", 12}, {"knows", 5}, {"knows 0", 7}, {"move", 4}, {"move 0", 6},
-      {"0", 0}, {"deep 3", 0}, {"girl 0 0", 0}, {"boys 0 0", 0}, {"bo 0 0", 0}, {"Boy 0 0", 0}, {"boY 0 0", 0},
+      {"0", 0}, {"deep 3", 0}, {"girl 0 0", 0}, {"boys 0 0", 0}, {"bo 0 0", 0}, {"Boy 0 0", 0}, {"toy 0 0", 0}, {"boyz 0 0", 0}, {"boya 0 0", 0}, {"boY 0 0", 0},
       {"boy boy", 4}, {"boy ;", 4}, {"boy 12 0", 4}, {"boy 2 0", 4}, {"boy 5 0", 4}, {"boy 1000 0", 4},
       {"boy 4294967296 0", 4}, {"boy 0 10", 6}, {"boy 0 4294967296", 6}, {"boy 0 boy", 6}, {"boy 0;0", 5},
       {"boy 0 0 0", 8}, {"boy 0 0 boy", 8}, {"boy 0 0deeep 3", 7}, {"boy 0 0 deep 0", 13}, {"boy 0 0 deep 10", 13},
@@ -125,10 +126,26 @@ public final class TextTest {
       x.feed(0x302030, 3);
       x.feed(one - 256, 1);
       boolean digit = one >= '0' && one <= '9';
-      long want = one == ' ' || one == '0' || digit ? 1 : one == ';' ? -9 : -8;
+      long want = one == ' ' || digit ? 1 : one == ';' ? -9 : -8;
       due("boy 0 0 and byte " + one, x.chapel(), want);
       due("tape after byte " + one, x.count(1), 0);
+      x = two();
+      x.feed(0x626f79, 3);
+      x.feed(one, 1);
+      x.feed(0x302030, 3);
+      boolean letter = one >= 'a' && one <= 'z';
+      want = one == ' ' || one == '0' || one == '1' ? 1 : letter ? -1 : -4;
+      due("boy and byte " + one + " and 0 0", x.chapel(), want);
     }
+  }
+
+  private static void earlierBytes() {
+    BackVerses x = two();
+    due("knows 9", tell(x, "knows 0 09"), 1);
+    due("knows 0, not 9 again", tell(x, "knows 0 0"), 1);
+    due("of(0, 4)", x.of(0, 4), 513);
+    due("a longer word", tell(x, "boy 0 0 deepx"), -9);
+    due("no longer word", tell(x, "boy 0 0 deep"), -13);
   }
 
   private static void eleventh() {
