@@ -1,3 +1,5 @@
+import java.io.DataInputStream;
+import java.io.IOException;
 import java.lang.management.ManagementFactory;
 import java.lang.reflect.Constructor;
 import java.lang.reflect.Field;
@@ -21,6 +23,11 @@ public final class FaceTest {
   private static final String[] RULED_OUT = {
     "throw", "try", "catch", "synchronized", "assert", "->", "::", "instanceof", "Exact(", "System.out", "static {"};
 
+  /** What the class calls outside itself. Before one more comes to these, look whether LANGUAGE.md, rule 4, has it. */
+  private static final Set<String> LIBRARY = Set.of(
+    "java/lang/Object.<init>", "java/lang/System.arraycopy", "java/util/Arrays.fill", "java/lang/Math.max",
+    "java/lang/Math.min", "java/lang/Integer.bitCount", "java/lang/String.length", "java/lang/String.charAt");
+
   private static int wrong = 0;
   private static long seed = 35L;
 
@@ -35,6 +42,8 @@ public final class FaceTest {
     face();
     nested();
     source();
+    shortMethods();
+    library();
     wildCalls();
     dearCallsMakeNothing();
     System.out.println(wrong == 0 ? "all is as due" : wrong + " things are not as due");
@@ -101,6 +110,58 @@ public final class FaceTest {
       due("no " + word, !java.util.regex.Pattern.compile(pattern).matcher(code).find());
     }
     for (int i = 0; i < text.length(); i++) due("plain signs", text.charAt(i) < 128);
+  }
+
+  /** Rule 11: methods of some sixty lines. A method's head and its end are known by how far they are set in. */
+  private static void shortMethods() throws Exception {
+    int head = -1;
+    String[] lines = Files.readString(Path.of("src/main/java/BackVerses.java")).split("\n");
+    for (int i = 0; i < lines.length; i++) {
+      String line = lines[i];
+      int in = line.length() - line.stripLeading().length();
+      if ((in == 4 || in == 8) && line.endsWith(") {") && head < 0) head = i;
+      if (head >= 0 && line.strip().equals("}") && in == lines[head].length() - lines[head].stripLeading().length()) {
+        due("at most sixty lines: " + lines[head].strip(), i - head < 60);
+        head = -1;
+      }
+    }
+    due("each method has an end", head < 0);
+  }
+
+  /** Rule 4, by what the compiled classes call. */
+  private static void library() throws IOException {
+    Set<String> called = new TreeSet<>();
+    calls("BackVerses", called);
+    for (Class<?> each : BackVerses.class.getDeclaredClasses()) calls(each.getName(), called);
+    for (String each : called) due("the library has " + each, LIBRARY.contains(each));
+  }
+
+  private static void calls(String name, Set<String> called) throws IOException {
+    try (DataInputStream in = new DataInputStream(BackVerses.class.getResourceAsStream(name + ".class"))) {
+      in.readLong();
+      int many = in.readUnsignedShort();
+      int[] tags = new int[many];
+      int[] first = new int[many];
+      int[] second = new int[many];
+      String[] texts = new String[many];
+      for (int i = 1; i < many; i++) {
+        tags[i] = in.readUnsignedByte();
+        switch (tags[i]) {
+          case 1: texts[i] = in.readUTF(); break;
+          case 3: case 4: in.readInt(); break;
+          case 5: case 6: in.readLong(); i++; break;
+          case 7: case 8: case 16: case 19: case 20: first[i] = in.readUnsignedShort(); break;
+          case 15: in.readUnsignedByte(); in.readUnsignedShort(); break;
+          default: first[i] = in.readUnsignedShort(); second[i] = in.readUnsignedShort();
+        }
+      }
+      for (int i = 1; i < many; i++) {
+        due(name + " makes no call by invokedynamic", tags[i] != 18);
+        if (tags[i] < 9 || tags[i] > 11) continue;
+        String owner = texts[first[first[i]]];
+        if (!owner.startsWith("BackVerses")) called.add(owner + "." + texts[first[second[i]]]);
+      }
+    }
   }
 
   private static int next() {
